@@ -173,7 +173,7 @@ public final class TightOctagon {
             if (empty || c >= tight(i, j)) {
                 return false;
             }
-            // Beyond the least value of i + j nothing is left; what goes on from here is small enough to be summed.
+            // Tight bounds are reached: a value is left just when c is not below the least that i + j (or i) has.
             if (c < -tight(i ^ 1, j ^ 1)) {
                 empty = true;
                 return true;
@@ -375,18 +375,12 @@ public final class TightOctagon {
         }
 
         /**
-         * Makes bounds tight that are the least ones that sums of others give: over whole numbers only those of one
-         * can still be less, by a half, and those of two by the bounds of both.
+         * Makes bounds tight, of a set that is not empty, that are the least ones that sums of others give: over whole
+         * numbers only those of one can still be less, by a half, and those of two by the bounds of both.
          */
         private void settle() {
             for (int i = 0; i < size; i++) {
                 put(i, i, get(i, i) & -2L);
-            }
-            for (int i = 0; i < size; i++) {
-                if (get(i, i ^ 1) < 0 || single(i) + single(i ^ 1) < 0) {
-                    empty = true;
-                    return;
-                }
             }
             for (int i = 0; i < size; i++) {
                 for (int j = 0; j < i; j++) {

@@ -121,6 +121,11 @@ public final class PromiseTest {
     t.meet(0, 0, 2, 0);
     t.meet(0, 0, 3, 1);
     due("4: 2x <= 1", t.bound(0, 0, 0), 0);
+    due("4: x <= 0 by that", t.meet(0, 0, 0, 0), 0);
+    t.meet(3, 0, 0, 0);
+    t.meet(3, 0, 2, 0);
+    t.meet(3, 0, 3, 1);
+    due("12: the same by another way", t.copy(3, 0), 1);
     t.meet(0, 1, 3, 0);
     t.meet(0, 1, 2, -1);
     due("4: 2x is 1", t.nothing(0), 1);
@@ -372,6 +377,9 @@ public final class PromiseTest {
     due("11: octagon 8", t.widen(8, 0), -1);
     due("11: octagon -1", t.widen(0, -1), -1);
     due("11: nothing and octagon 8", t.widen(2, 8), -1);
+    within(t, 4, 0, 9, 10);
+    due("11: nothing that was a little", t.widen(4, 7), 0);
+    due("11: it stays nothing", t.nothing(4), 1);
   }
 
   private static void copy() {
