@@ -4,6 +4,9 @@ public final class LiftModelTest {
   private static final long MAX = Integer.MAX_VALUE;
   private static final long NO_BOUND = -1099511627776L;
   private static final int USED = 4;
+  private static final int MOST_CALLS = 512;
+  private static final int DEAREST_STEP = 30;
+  private static final int DEAREST_END = 80;
   private static final int SPARE = 7;
   private static int wrong = 0;
   private static int calls = 0;
@@ -12,6 +15,7 @@ public final class LiftModelTest {
   private final int run;
   private final int k;
   private final TightOctagon octagon;
+  private int used = 0;
   // The bounds of each octagon, those of one doubled; null for nothing.
   private final long[][][] models = new long[USED][][];
 
@@ -23,9 +27,10 @@ public final class LiftModelTest {
   }
 
   public static void main(String[] args) {
-    for (int run = 0; run < 600; run++) {
+    for (int run = 0; run < 2000; run++) {
       LiftModelTest test = new LiftModelTest(run);
-      for (int step = 0; step < 40; step++) test.step();
+      while (test.mayStep()) test.step();
+      test.end();
     }
     System.out.println(wrong == 0 ? calls + " answers are as due" : wrong + " answers are not as due");
     if (wrong != 0) System.exit(1);
@@ -42,6 +47,14 @@ public final class LiftModelTest {
       System.out.println("run " + run + ": " + what + " answered " + got + ", due is " + want);
     }
   }
+
+  // What an object answers after its 512th call is free, so a run ends before that.
+  private TightOctagon counted() {
+    if (++used > MOST_CALLS) throw new IllegalStateException("run " + run + " asks too much of one object");
+    return octagon;
+  }
+
+  private boolean mayStep() { return used + DEAREST_STEP + DEAREST_END <= MOST_CALLS; }
 
   private static long greatest(int i) { return (i & 1) == 0 ? MAX : MAX + 1; }
 
@@ -124,7 +137,7 @@ public final class LiftModelTest {
     int o = below(USED);
     int p = below(USED);
     if (models[o] == null && below(3) != 0) {
-      due("all(" + o + ") of nothing", octagon.all(o), 0);
+      due("all(" + o + ") of nothing", counted().all(o), 0);
       models[o] = ints(k);
     }
     switch (below(14)) {
@@ -170,7 +183,7 @@ public final class LiftModelTest {
       models[o] = next[i][i ^ 1] < 0 ? null : sharpened(next);
     }
     String call = "meet(" + o + ", " + i + ", " + j + ", " + c + ")";
-    due(call, octagon.meet(o, i, j, c), same(old, models[o]) ? 0 : 1);
+    due(call, counted().meet(o, i, j, c), same(old, models[o]) ? 0 : 1);
     check(o, call);
   }
 
@@ -179,7 +192,7 @@ public final class LiftModelTest {
     long[][] old = models[o];
     if (old != null) models[o] = dropped(lifted(old), x);
     String call = "forget(" + o + ", " + x + ")";
-    due(call, octagon.forget(o, x), same(old, models[o]) ? 0 : 1);
+    due(call, counted().forget(o, x), same(old, models[o]) ? 0 : 1);
     check(o, call);
   }
 
@@ -200,7 +213,7 @@ public final class LiftModelTest {
       models[o] = dropped(more, x);
     }
     String call = "shift(" + o + ", " + x + ", " + low + ", " + high + ")";
-    due(call, octagon.shift(o, x, low, high), models[o] == null ? 1 : 0);
+    due(call, counted().shift(o, x, low, high), models[o] == null ? 1 : 0);
     check(o, call);
   }
 
@@ -213,7 +226,7 @@ public final class LiftModelTest {
       models[o] = dropped(more, x);
     }
     String call = "turn(" + o + ", " + x + ")";
-    due(call, octagon.turn(o, x), models[o] == null ? 1 : 0);
+    due(call, counted().turn(o, x), models[o] == null ? 1 : 0);
     check(o, call);
   }
 
@@ -228,7 +241,7 @@ public final class LiftModelTest {
       }
     }
     String call = "join(" + o + ", " + p + ")";
-    due(call, octagon.join(o, p), same(old, models[o]) ? 0 : 1);
+    due(call, counted().join(o, p), same(old, models[o]) ? 0 : 1);
     check(o, call);
   }
 
@@ -244,13 +257,13 @@ public final class LiftModelTest {
       models[o] = sharpened(next);
     }
     String call = "widen(" + o + ", " + p + ")";
-    due(call, octagon.widen(o, p), same(old, models[o]) ? 0 : 1);
+    due(call, counted().widen(o, p), same(old, models[o]) ? 0 : 1);
     check(o, call);
   }
 
   private void copy(int o, int p) {
     String call = "copy(" + o + ", " + p + ")";
-    due(call, octagon.copy(o, p), same(models[o], models[p]) ? 1 : 0);
+    due(call, counted().copy(o, p), same(models[o], models[p]) ? 1 : 0);
     models[o] = clone(models[p]);
     check(o, call);
   }
@@ -260,16 +273,16 @@ public final class LiftModelTest {
     if (models[o] == null) return;
     int i = below(2 * k);
     int j = below(2 * k);
-    long most = octagon.bound(o, i, j);
-    octagon.copy(SPARE, o);
-    octagon.meet(SPARE, i ^ 1, j ^ 1, -most);
+    long most = counted().bound(o, i, j);
+    counted().copy(SPARE, o);
+    counted().meet(SPARE, i ^ 1, j ^ 1, -most);
     int[] point = new int[6];
     for (int x = 0; x < k; x++) {
-      long top = octagon.bound(SPARE, 2 * x, 2 * x);
-      octagon.meet(SPARE, 2 * x + 1, 2 * x + 1, -top);
+      long top = counted().bound(SPARE, 2 * x, 2 * x);
+      counted().meet(SPARE, 2 * x + 1, 2 * x + 1, -top);
       point[x] = (int) top;
     }
-    boolean has = octagon.has(o, point[0], point[1], point[2], point[3], point[4], point[5]);
+    boolean has = counted().has(o, point[0], point[1], point[2], point[3], point[4], point[5]);
     due("has(" + o + ", a value with the greatest of " + i + ", " + j + ")", has ? 1 : 0, 1);
     long first = (i & 1) == 0 ? point[i >> 1] : -(long) point[i >> 1];
     long second = (j & 1) == 0 ? point[j >> 1] : -(long) point[j >> 1];
@@ -278,16 +291,24 @@ public final class LiftModelTest {
 
   private void check(int o, String after) {
     long[][] m = models[o];
-    due("nothing(" + o + ") after " + after, octagon.nothing(o), m == null ? 1 : 0);
+    due("nothing(" + o + ") after " + after, counted().nothing(o), m == null ? 1 : 0);
+    for (int n = 0; n < 20; n++) checkBound(o, below(2 * k), below(2 * k), after);
+    int p = below(USED);
+    due("lies(" + o + ", " + p + ") after " + after, counted().lies(o, p), within(m, models[p]) ? 1 : 0);
+    due("lies(" + p + ", " + o + ") after " + after, counted().lies(p, o), within(models[p], m) ? 1 : 0);
+  }
+
+  private void checkBound(int o, int i, int j, String after) {
+    long[][] m = models[o];
+    long want = m == null ? NO_BOUND : i == j ? m[i][j] / 2 : m[i][j];
+    due("bound(" + o + ", " + i + ", " + j + ") after " + after, counted().bound(o, i, j), want);
+  }
+
+  // A few bounds are asked for at each step, all of one octagon at the end of the run.
+  private void end() {
+    int o = below(USED);
     for (int i = 0; i < 2 * k; i++) {
-      for (int j = 0; j < 2 * k; j++) {
-        long want = m == null ? NO_BOUND : i == j ? m[i][j] / 2 : m[i][j];
-        due("bound(" + o + ", " + i + ", " + j + ") after " + after, octagon.bound(o, i, j), want);
-      }
-    }
-    for (int p = 0; p < USED; p++) {
-      due("lies(" + o + ", " + p + ") after " + after, octagon.lies(o, p), within(m, models[p]) ? 1 : 0);
-      due("lies(" + p + ", " + o + ") after " + after, octagon.lies(p, o), within(models[p], m) ? 1 : 0);
+      for (int j = 0; j <= i; j++) checkBound(o, i, j, "the run");
     }
   }
 }

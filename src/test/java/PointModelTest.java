@@ -6,6 +6,8 @@ public final class PointModelTest {
   private static final int MIN = Integer.MIN_VALUE;
   private static final int MAX = Integer.MAX_VALUE;
   private static final int USED = 4;
+  private static final int MOST_CALLS = 512;
+  private static final int DEAREST_STEP = 100;
   private static final long NO_BOUND = -1099511627776L;
   private static int wrong = 0;
   private static int calls = 0;
@@ -14,6 +16,7 @@ public final class PointModelTest {
   private final int k;
   private final long[] base;
   private final TightOctagon octagon;
+  private int used = 0;
   private final List<List<long[]>> sets = new ArrayList<>();
   private final int run;
 
@@ -26,14 +29,14 @@ public final class PointModelTest {
     for (int x = 0; x < k; x++) base[x] = places[below(places.length)];
     for (int o = 0; o < USED; o++) {
       sets.add(new ArrayList<>());
-      refill(o);
+      fillBox(o);
     }
   }
 
   public static void main(String[] args) {
-    for (int run = 0; run < 1500; run++) {
+    for (int run = 0; run < 5000; run++) {
       PointModelTest test = new PointModelTest(run);
-      for (int step = 0; step < 25; step++) test.step();
+      while (test.mayStep()) test.step();
     }
     System.out.println(wrong == 0 ? calls + " answers are as due" : wrong + " answers are not as due");
     if (wrong != 0) System.exit(1);
@@ -59,6 +62,14 @@ public final class PointModelTest {
   private static long sum(long[] point, int i, int j) {
     return i == j ? signed(point, i) : signed(point, i) + signed(point, j);
   }
+
+  // What an object answers after its 512th call is free, so a run ends before that.
+  private TightOctagon counted() {
+    if (++used > MOST_CALLS) throw new IllegalStateException("run " + run + " asks too much of one object");
+    return octagon;
+  }
+
+  private boolean mayStep() { return used + DEAREST_STEP <= MOST_CALLS; }
 
   private static long greatest(int i) { return (i & 1) == 0 ? MAX : -(long) MIN; }
 
@@ -146,17 +157,21 @@ public final class PointModelTest {
   }
 
   // A box at the base, so that the octagons of a run lie near one another.
-  private void refill(int o) {
-    octagon.all(o);
+  private void fillBox(int o) {
+    counted().all(o);
     long[] low = new long[k];
     long[] high = new long[k];
     for (int x = 0; x < k; x++) {
       low[x] = base[x] + below(3);
       high[x] = low[x] + below(3);
-      octagon.meet(o, 2 * x, 2 * x, high[x]);
-      octagon.meet(o, 2 * x + 1, 2 * x + 1, -low[x]);
+      counted().meet(o, 2 * x, 2 * x, high[x]);
+      counted().meet(o, 2 * x + 1, 2 * x + 1, -low[x]);
     }
     sets.set(o, inBox(allBounds(), low, high));
+  }
+
+  private void refill(int o) {
+    fillBox(o);
     check(o, "refill");
   }
 
@@ -193,7 +208,7 @@ public final class PointModelTest {
       if (sum(point, i, j) <= c) left.add(point);
     }
     String call = "meet(" + o + ", " + i + ", " + j + ", " + c + ")";
-    due(call, octagon.meet(o, i, j, c), left.size() < set.size() ? 1 : 0);
+    due(call, counted().meet(o, i, j, c), left.size() < set.size() ? 1 : 0);
     sets.set(o, left);
     check(o, call);
   }
@@ -202,7 +217,7 @@ public final class PointModelTest {
     int x = below(k);
     String call = "forget(" + o + ", " + x + ")";
     List<long[]> set = sets.get(o);
-    due(call, octagon.forget(o, x), set.isEmpty() ? 0 : 1);
+    due(call, counted().forget(o, x), set.isEmpty() ? 0 : 1);
     if (set.isEmpty()) return;
     long[][] most = bounds(set);
     for (int i = 2 * x; i <= 2 * x + 1; i++) {
@@ -223,8 +238,8 @@ public final class PointModelTest {
     for (int x = 0; x < k; x++) {
       low[x] = Math.max(MIN, -around[2 * x + 1][2 * x + 1] - below(3));
       high[x] = Math.min(MAX, around[2 * x][2 * x] + below(3));
-      octagon.meet(o, 2 * x, 2 * x, high[x]);
-      octagon.meet(o, 2 * x + 1, 2 * x + 1, -low[x]);
+      counted().meet(o, 2 * x, 2 * x, high[x]);
+      counted().meet(o, 2 * x + 1, 2 * x + 1, -low[x]);
     }
     sets.set(o, inBox(most, low, high));
     check(o, "a box after it");
@@ -245,7 +260,7 @@ public final class PointModelTest {
     }
     String call = "shift(" + o + ", " + x + ", " + low + ", " + high + ")";
     sets.set(o, hull(moved));
-    due(call, octagon.shift(o, x, low, high), moved.isEmpty() ? 1 : 0);
+    due(call, counted().shift(o, x, low, high), moved.isEmpty() ? 1 : 0);
     check(o, call);
   }
 
@@ -259,7 +274,7 @@ public final class PointModelTest {
     }
     String call = "turn(" + o + ", " + x + ")";
     sets.set(o, turned);
-    due(call, octagon.turn(o, x), turned.isEmpty() ? 1 : 0);
+    due(call, counted().turn(o, x), turned.isEmpty() ? 1 : 0);
     check(o, call);
   }
 
@@ -268,7 +283,7 @@ public final class PointModelTest {
     both.addAll(sets.get(p));
     if (!isSmall(both)) return;
     String call = "join(" + o + ", " + p + ")";
-    due(call, octagon.join(o, p), within(sets.get(p), sets.get(o)) ? 0 : 1);
+    due(call, counted().join(o, p), within(sets.get(p), sets.get(o)) ? 0 : 1);
     sets.set(o, hull(both));
     check(o, call);
   }
@@ -278,7 +293,7 @@ public final class PointModelTest {
     List<long[]> set = sets.get(o);
     List<long[]> other = sets.get(p);
     if (set.isEmpty() || other.isEmpty()) {
-      due(call, octagon.widen(o, p), 0);
+      due(call, counted().widen(o, p), 0);
       check(o, call);
       return;
     }
@@ -293,43 +308,44 @@ public final class PointModelTest {
         }
       }
     }
-    due(call, octagon.widen(o, p), more ? 1 : 0);
-    due("p lies in it, " + call, octagon.lies(p, o), 1);
+    due(call, counted().widen(o, p), more ? 1 : 0);
+    due("p lies in it, " + call, counted().lies(p, o), 1);
     enclose(o, set, most);
   }
 
   private void copy(int o, int p) {
     String call = "copy(" + o + ", " + p + ")";
     boolean same = within(sets.get(o), sets.get(p)) && within(sets.get(p), sets.get(o));
-    due(call, octagon.copy(o, p), same ? 1 : 0);
+    due(call, counted().copy(o, p), same ? 1 : 0);
     sets.set(o, sets.get(p));
     check(o, call);
   }
 
   private void checkBounds(int o, String after, long[][] most) {
     for (int i = 0; i < 2 * k; i++) {
-      for (int j = 0; j < 2 * k; j++) {
+      for (int j = 0; j <= i; j++) {
         long want = most == null ? NO_BOUND : most[i][j];
-        due("bound(" + o + ", " + i + ", " + j + ") after " + after, octagon.bound(o, i, j), want);
+        boolean swap = below(2) == 0;
+        long got = swap ? counted().bound(o, j, i) : counted().bound(o, i, j);
+        due("bound(" + o + ", " + i + ", " + j + ") after " + after, got, want);
       }
     }
   }
 
   private void check(int o, String after) {
     List<long[]> set = sets.get(o);
-    due("nothing(" + o + ") after " + after, octagon.nothing(o), set.isEmpty() ? 1 : 0);
+    due("nothing(" + o + ") after " + after, counted().nothing(o), set.isEmpty() ? 1 : 0);
     checkBounds(o, after, set.isEmpty() ? null : bounds(set));
-    for (int p = 0; p < sets.size(); p++) {
-      due("lies(" + o + ", " + p + ") after " + after, octagon.lies(o, p), within(set, sets.get(p)) ? 1 : 0);
-      due("lies(" + p + ", " + o + ") after " + after, octagon.lies(p, o), within(sets.get(p), set) ? 1 : 0);
-    }
-    for (int tries = 0; tries < 4; tries++) {
+    int p = below(USED);
+    due("lies(" + o + ", " + p + ") after " + after, counted().lies(o, p), within(set, sets.get(p)) ? 1 : 0);
+    due("lies(" + p + ", " + o + ") after " + after, counted().lies(p, o), within(sets.get(p), set) ? 1 : 0);
+    for (int tries = 0; tries < 3; tries++) {
       long[] point = new long[6];
       for (int x = 0; x < k; x++) {
         long near = set.isEmpty() ? base[x] : set.get(below(set.size()))[x];
         point[x] = Math.max(MIN, Math.min(MAX, near + below(3) - 1));
       }
-      boolean has = octagon.has(o, (int) point[0], (int) point[1], (int) point[2], below(9), below(9), below(9));
+      boolean has = counted().has(o, (int) point[0], (int) point[1], (int) point[2], below(9), below(9), below(9));
       due("has(" + o + ", ..) after " + after, has ? 1 : 0, contains(set, java.util.Arrays.copyOf(point, k)) ? 1 : 0);
     }
   }

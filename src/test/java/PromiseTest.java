@@ -452,46 +452,62 @@ public final class PromiseTest {
 
   // Every argument that names nothing, in each place: the answer that is due, no exception, and no change.
   private static void wrongInputs() {
+    for (int bad : new int[] {MIN, MIN + 1, -9, -1, 8, 9, 1 << 30, MAX - 1, MAX}) wrongOctagon(bad);
+    for (int bad : new int[] {MIN, -6, -1, 3, 4, 6, 1 << 30, MAX}) wrongNumber(bad);
+    for (int bad : new int[] {MIN, -7, -1, 6, 7, 12, 1 << 30, MAX}) wrongSigned(bad);
+  }
+
+  private static TightOctagon eight() {
     TightOctagon t = new TightOctagon(3);
     for (int o = 0; o < 8; o++) within(t, o, 0, o, 2 * o);
-    int[] noOctagon = {MIN, MIN + 1, -9, -1, 8, 9, 1 << 30, MAX - 1, MAX};
-    for (int bad : noOctagon) {
-      due("3: all", t.all(bad), -1);
-      due("4: meet", t.meet(bad, 0, 0, Long.MIN_VALUE), -1);
-      due("5: bound", t.bound(bad, 0, 0), -FAR);
-      due("6: nothing", t.nothing(bad), -1);
-      due("7: forget", t.forget(bad, 0), -1);
-      due("8: shift", t.shift(bad, 0, 1, 1), -1);
-      due("9: turn", t.turn(bad, 0), -1);
-      for (int good = 0; good < 8; good++) {
-        due("10: join", t.join(bad, good) + t.join(good, bad), -2);
-        due("11: widen", t.widen(bad, good) + t.widen(good, bad), -2);
-        due("12: copy", t.copy(bad, good) + t.copy(good, bad), -2);
-        due("13: lies", t.lies(bad, good) + t.lies(good, bad), -2);
-      }
-      due("10: join", t.join(bad, bad), -1);
-      due("11: widen", t.widen(bad, bad), -1);
-      due("12: copy", t.copy(bad, bad), -1);
-      due("13: lies", t.lies(bad, bad), -1);
-      due("14: has", t.has(bad, 0, 0, 0, 0, 0, 0), false);
-    }
-    int[] noNumber = {MIN, -6, -1, 3, 4, 6, 1 << 30, MAX};
-    for (int bad : noNumber) {
-      due("7: forget", t.forget(1, bad), -1);
-      due("8: shift", t.shift(1, bad, 1, 1), -1);
-      due("9: turn", t.turn(1, bad), -1);
-    }
-    int[] noSigned = {MIN, -7, -1, 6, 7, 12, 1 << 30, MAX};
-    for (int bad : noSigned) {
-      due("4: meet", t.meet(1, bad, 0, Long.MIN_VALUE), -1);
-      due("4: meet", t.meet(1, 5, bad, Long.MIN_VALUE), -1);
-      due("4: meet", t.meet(1, bad, bad, Long.MIN_VALUE), -1);
-      due("4: meet", t.meet(1, bad, bad ^ 1, -1), -1);
-      due("5: bound", t.bound(1, bad, 0), -FAR);
-      due("5: bound", t.bound(1, 5, bad), -FAR);
-      due("5: bound", t.bound(1, bad, bad), -FAR);
-      due("5: bound", t.bound(1, bad, bad ^ 1), -FAR);
-    }
+    return t;
+  }
+
+  private static void dueEight(TightOctagon t) {
     for (int o = 0; o < 8; o++) dueRange("wrong inputs change nothing", t, o, 0, o, 2 * o);
+  }
+
+  private static void wrongOctagon(int bad) {
+    TightOctagon t = eight();
+    due("3: all", t.all(bad), -1);
+    due("4: meet", t.meet(bad, 0, 0, Long.MIN_VALUE), -1);
+    due("5: bound", t.bound(bad, 0, 0), -FAR);
+    due("6: nothing", t.nothing(bad), -1);
+    due("7: forget", t.forget(bad, 0), -1);
+    due("8: shift", t.shift(bad, 0, 1, 1), -1);
+    due("9: turn", t.turn(bad, 0), -1);
+    for (int good = 0; good < 8; good++) {
+      due("10: join", t.join(bad, good) + t.join(good, bad), -2);
+      due("11: widen", t.widen(bad, good) + t.widen(good, bad), -2);
+      due("12: copy", t.copy(bad, good) + t.copy(good, bad), -2);
+      due("13: lies", t.lies(bad, good) + t.lies(good, bad), -2);
+    }
+    due("10: join", t.join(bad, bad), -1);
+    due("11: widen", t.widen(bad, bad), -1);
+    due("12: copy", t.copy(bad, bad), -1);
+    due("13: lies", t.lies(bad, bad), -1);
+    due("14: has", t.has(bad, 0, 0, 0, 0, 0, 0), false);
+    dueEight(t);
+  }
+
+  private static void wrongNumber(int bad) {
+    TightOctagon t = eight();
+    due("7: forget", t.forget(1, bad), -1);
+    due("8: shift", t.shift(1, bad, 1, 1), -1);
+    due("9: turn", t.turn(1, bad), -1);
+    dueEight(t);
+  }
+
+  private static void wrongSigned(int bad) {
+    TightOctagon t = eight();
+    due("4: meet", t.meet(1, bad, 0, Long.MIN_VALUE), -1);
+    due("4: meet", t.meet(1, 5, bad, Long.MIN_VALUE), -1);
+    due("4: meet", t.meet(1, bad, bad, Long.MIN_VALUE), -1);
+    due("4: meet", t.meet(1, bad, bad ^ 1, -1), -1);
+    due("5: bound", t.bound(1, bad, 0), -FAR);
+    due("5: bound", t.bound(1, 5, bad), -FAR);
+    due("5: bound", t.bound(1, bad, bad), -FAR);
+    due("5: bound", t.bound(1, bad, bad ^ 1), -FAR);
+    dueEight(t);
   }
 }
