@@ -32,6 +32,7 @@ public final class FaceTest {
       got.add(f.getType().getName() + " " + f.getName());
     }
     due("the face", got, want);
+    due("private methods with the name of a public one", hiddenNamesakes(), new TreeSet<String>());
     due("the class is public and final", TightOctagon.class.getModifiers(), Modifier.PUBLIC | Modifier.FINAL);
     due("constructors", TightOctagon.class.getDeclaredConstructors().length, 1);
     due("public constructors", TightOctagon.class.getConstructors().length, 1);
@@ -39,5 +40,20 @@ public final class FaceTest {
     due("NO_BOUND", TightOctagon.NO_BOUND, -1099511627776L);
     System.out.println(wrong == 0 ? "the face is as due" : wrong + " things are not as due");
     if (wrong != 0) System.exit(1);
+  }
+
+  private static TreeSet<String> hiddenNamesakes() {
+    TreeSet<String> seen = new TreeSet<>();
+    for (Method m : TightOctagon.class.getMethods()) seen.add(m.getName());
+    TreeSet<String> namesakes = new TreeSet<>();
+    addNamesakes(TightOctagon.class, seen, namesakes);
+    for (Class<?> inside : TightOctagon.class.getDeclaredClasses()) addNamesakes(inside, seen, namesakes);
+    return namesakes;
+  }
+
+  private static void addNamesakes(Class<?> type, TreeSet<String> seen, TreeSet<String> namesakes) {
+    for (Method m : type.getDeclaredMethods()) {
+      if (!Modifier.isPublic(m.getModifiers()) && seen.contains(m.getName())) namesakes.add(m.getName());
+    }
   }
 }

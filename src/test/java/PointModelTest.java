@@ -7,7 +7,6 @@ public final class PointModelTest {
   private static final int MAX = Integer.MAX_VALUE;
   private static final int USED = 4;
   private static final int MOST_CALLS = 512;
-  private static final int DEAREST_STEP = 100;
   private static final long NO_BOUND = -1099511627776L;
   private static int wrong = 0;
   private static int calls = 0;
@@ -22,7 +21,7 @@ public final class PointModelTest {
 
   private PointModelTest(int run) {
     this.run = run;
-    k = 1 + below(3);
+    k = 1 + below(6);
     octagon = new TightOctagon(k);
     base = new long[k];
     long[] places = {MIN, MAX - 4L, -2, 0, 1000000, -1073741824};
@@ -69,7 +68,11 @@ public final class PointModelTest {
     return octagon;
   }
 
-  private boolean mayStep() { return used + DEAREST_STEP <= MOST_CALLS; }
+  // The dearest step fills a box, forgets a number and makes a box again, and asks for all bounds after each of them.
+  private boolean mayStep() {
+    int bounds = k * (2 * k + 1);
+    return used + 3 * bounds + 4 * k + 20 <= MOST_CALLS;
+  }
 
   private static long greatest(int i) { return (i & 1) == 0 ? MAX : -(long) MIN; }
 
@@ -332,6 +335,10 @@ public final class PointModelTest {
     }
   }
 
+  private boolean hasPoint(int o, long[] p) {
+    return counted().has(o, (int) p[0], (int) p[1], (int) p[2], (int) p[3], (int) p[4], (int) p[5]);
+  }
+
   private void check(int o, String after) {
     List<long[]> set = sets.get(o);
     due("nothing(" + o + ") after " + after, counted().nothing(o), set.isEmpty() ? 1 : 0);
@@ -345,7 +352,8 @@ public final class PointModelTest {
         long near = set.isEmpty() ? base[x] : set.get(below(set.size()))[x];
         point[x] = Math.max(MIN, Math.min(MAX, near + below(3) - 1));
       }
-      boolean has = counted().has(o, (int) point[0], (int) point[1], (int) point[2], below(9), below(9), below(9));
+      for (int x = k; x < 6; x++) point[x] = below(9);
+      boolean has = hasPoint(o, point);
       due("has(" + o + ", ..) after " + after, has ? 1 : 0, contains(set, java.util.Arrays.copyOf(point, k)) ? 1 : 0);
     }
   }
